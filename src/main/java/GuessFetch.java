@@ -31,7 +31,8 @@ public final class GuessFetch {
 
     private static final int MOST_ACTS = 60, REGISTERS = 8, MEMORY = 16, MOST_STACK = 16,
             COUNTERS = 16, TARGETS = 8, MOST_RETURNS = 4, MOST_DEPTH = 6, MOST_CYCLES = 5000,
-            MOST_DONE_KEPT = 300, HIGHEST_COUNTER = 3, HIGHEST_HISTORY = 15, HIGHEST_HARM = 200;
+            MOST_DONE_KEPT = 300, HIGHEST_COUNTER = 3, HIGHEST_HISTORY = 15, HIGHEST_HARM = 200,
+            BELOW_HIGHEST_BIT = 0x7FFFFFFF;
 
     private final Program program = new Program();
     private final Core core = new Core();
@@ -96,7 +97,6 @@ public final class GuessFetch {
         counts.add(RUNS_EVER, 1);
         doneAddresses.clear();
         core.emptyStack();
-        queue.clear();
         guesser.returns().clear();
         place = 0;
         runState = UNDER_WAY;
@@ -331,6 +331,7 @@ public final class GuessFetch {
         queue.clear();
     }
 
+    /** Every RUN leaves nothing FETCHED behind, so that the next one begins with none. */
     private void endRun(int how) {
         dropFetched();
         runState = how;
@@ -440,13 +441,13 @@ public final class GuessFetch {
         }
 
         void pushEldestOut(int v) {
-            if (push(v)) {
-                return;
+            if (size >= cells.length) {
+                for (int k = 1; k < cells.length; k++) {
+                    cells[k - 1] = cells[k];
+                }
+                size = Math.max(0, cells.length - 1);
             }
-            for (int k = 1; k < size; k++) {
-                set(k - 1, get(k));
-            }
-            set(size - 1, v);
+            push(v);
         }
 
         /** The top, that goes; NONE if there is none. */
@@ -562,7 +563,7 @@ public final class GuessFetch {
                 case JUMP: return c;
                 case CALL: return addresses.push(p + 1) ? c : NONE;
                 case BACK: return addresses.pop();
-                case BY: return program.size() > 0 ? (x & Integer.MAX_VALUE) % program.size() : NONE;
+                case BY: return program.size() > 0 ? (x & BELOW_HIGHEST_BIT) % program.size() : NONE;
                 default: break;
             }
             return p + 1;

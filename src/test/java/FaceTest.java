@@ -18,7 +18,8 @@ final class FaceTest {
             "int fetched(int)", "int known()", "int told(int,int)", "int count(int)", "long digest()");
     private static final String[] FORBIDDEN = {"\\bthrow\\b", "\\btry\\b", "\\bcatch\\b", "\\bsynchronized\\b",
         "\\bassert\\b", "\\bimport\\b", "\\bpackage\\b", "->", "::", "\\bSystem\\.(?!arraycopy)", "\\bnative\\b",
-        "\\bprotected\\b", "@", "Exact\\b", "\\bObject\\b", "\\?\\s*extends"};
+        "\\bprotected\\b", "@", "Exact\\b", "\\bObject\\b", "\\?\\s*extends",
+        "\\b(Integer|Long|Math)\\.[A-Z]"};
 
     public static void main(String[] args) throws IOException {
         constants();
