@@ -431,6 +431,10 @@ final class TooSmallTooLargeTest {
         GuessFetch y = branchDone(true, 2, 2, 0);
         Due.is("PLAIN 2, one more", y.table(0, 0), 3);
         Due.is("MIXED 2, one more", y.table(1, 0), 3);
+        GuessFetch z = branchDone(true, 0, 0, 0);
+        Due.is("PLAIN 0, one more", z.table(0, 0), 1);
+        Due.is("MIXED 0, one more", z.table(1, 0), 1);
+        Due.is("CHOICE 0, one more", branchDone(true, 1, 2, 0).table(2, 0), 1);
         Due.is("CHOICE 3, one more", branchDone(true, 1, 2, 3).table(2, 0), 3);
         Due.is("CHOICE 2, one more", branchDone(true, 1, 2, 2).table(2, 0), 3);
     }
@@ -444,6 +448,10 @@ final class TooSmallTooLargeTest {
         GuessFetch y = branchDone(false, 1, 1, 3);
         Due.is("PLAIN 1, one less", y.table(0, 0), 0);
         Due.is("MIXED 1, one less", y.table(1, 0), 0);
+        GuessFetch z = branchDone(false, 3, 3, 3);
+        Due.is("PLAIN 3, one less", z.table(0, 0), 2);
+        Due.is("MIXED 3, one less", z.table(1, 0), 2);
+        Due.is("CHOICE 3, one less", branchDone(false, 1, 2, 3).table(2, 0), 2);
         Due.is("CHOICE 0, one less", branchDone(false, 1, 2, 0).table(2, 0), 0);
         Due.is("CHOICE 1, one less", branchDone(false, 1, 2, 1).table(2, 0), 0);
     }

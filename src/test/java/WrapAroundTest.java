@@ -21,6 +21,7 @@ final class WrapAroundTest {
         targetsAtItsPlaceAlone();
         targetsAreTakenFromOneAnother();
         digestWraps();
+        digestOfARunUnderWay();
         Due.end();
     }
 
@@ -208,28 +209,37 @@ final class WrapAroundTest {
         }
     }
 
-    /** The same places when it is guessed: the BRANCH is in TARGETS, and one counter alone tells to turn. */
+    /** The same places when it is guessed: one counter tells other than all others of its row. */
     private static void countersTellByAddressModulo16() {
         for (int p = 1; p < 60; p++) {
             int history = p * 5 % 16;
             int mixedPlace = crossed(p % 16, history);
-            for (int way = 1; way <= 3; way++) {
-                for (int other = 0; other <= 1; other++) {
-                    // at DEPTH 2 the BRANCH is FETCHED before the JUMP is DONE, which may take its place in TARGETS
-                    GuessFetch x = branchAt(p, way, 2, history);
-                    Make.begun(x, 1);
-                    Make.known(x, p, 6, 44);
-                    for (int i = 0; i < 16; i++) {
-                        x.harm(0, i, way == 1 ? 2 * other : 0);
-                        x.harm(1, i, way == 2 ? 2 * other : way == 3 ? 3 : 0);
-                        x.harm(2, i, 2 * other);
-                    }
-                    x.harm(way - 1, way == 2 ? mixedPlace : p % 16, 2 - 2 * other);
-                    x.run(1);
-                    Due.is("BRANCH at " + p + ", WAY " + way + ", HISTORY " + history, x.count(11), other == 0 ? 44 : p + 1);
-                }
+            for (int others = 0; others <= 3; others += 3) {
+                int one = 3 - others;
+                int goes = one == 3 ? 44 : p + 1;
+                String name = "BRANCH at " + p + ", HISTORY " + history + ", one counter " + one + ", WAY ";
+                Due.is(name + "1", guessedAt(p, 1, history, 0, p % 16, others, new int[] {0, 0, 0}), goes);
+                Due.is(name + "2", guessedAt(p, 2, history, 1, mixedPlace, others, new int[] {0, 0, 0}), goes);
+                Due.is(name + "3 by PLAIN", guessedAt(p, 3, history, 0, p % 16, others, new int[] {0, one, 0}), goes);
+                Due.is(name + "3 by MIXED", guessedAt(p, 3, history, 1, mixedPlace, others, new int[] {one, 0, 3}), goes);
+                Due.is(name + "3 by CHOICE", guessedAt(p, 3, history, 2, p % 16, others, new int[] {0, 3, 0}), goes);
             }
         }
+    }
+
+    /** PLACE behind the FETCH of the BRANCH at p, in TARGETS to 44: rows of counters as given, of one row one other. */
+    private static int guessedAt(int p, int way, int history, int row, int one, int others, int[] rows) {
+        // at DEPTH 2 the BRANCH is FETCHED before the JUMP is DONE, which may take its place in TARGETS
+        GuessFetch x = branchAt(p, way, 2, history);
+        Make.begun(x, 1);
+        Make.known(x, p, 6, 44);
+        for (int i = 0; i < 16; i++) {
+            for (int what = 0; what <= 2; what++) {
+                x.harm(what, i, what != row ? rows[what] : i == one ? 3 - others : others);
+            }
+        }
+        x.run(1);
+        return x.count(11);
     }
 
     /** "TARGETS, 8 places, by ADDRESS modulo 8" */
@@ -321,6 +331,35 @@ final class WrapAroundTest {
         }
         Due.isTrue("it is beyond a long", h.abs().bitLength() > 800);
         Due.is("digest()", x.digest(), h.longValue());
+    }
+
+    /** digest(): "for each of these numbers, in order", where THE STACK, RETURNS and FETCHED ones have some */
+    private static void digestOfARunUnderWay() {
+        GuessFetch x = Make.program(1, 2, Make.call(2), Make.halt(), Make.call(3), Make.same(6, 7, 0), Make.set(5, 9));
+        Make.known(x, 0, 8, 2);
+        Make.known(x, 2, 8, 3);
+        Make.known(x, 3, 6, 4);
+        x.harm(0, 3, 3);
+        x.harm(6, 0, 5);
+        Make.begun(x, 4);
+        int[] numbers = {8, 0, 0, 2, 11, 0, 0, 0, 8, 0, 0, 3, 6, 6, 7, 0, 0, 5, 0, 9,
+            0, 0, 0, 0, 0, 0, 0, 0,
+            0, 0, 0, 0, 0, 0, 0, 0, 0, 0, 0, 0, 0, 0, 0, 0,
+            1, 3,
+            1, 1, 1, 3, 1, 1, 1, 1, 1, 1, 1, 1, 1, 1, 1, 1,
+            1, 1, 1, 1, 1, 1, 1, 1, 1, 1, 1, 1, 1, 1, 1, 1,
+            1, 1, 1, 1, 1, 1, 1, 1, 1, 1, 1, 1, 1, 1, 1, 1,
+            0, -1, 2, 3, -1, -1, -1, -1,
+            8, 5, 8, 6, 5, 5, 5, 5,
+            2, 0, 3, 4, 0, 0, 0, 0,
+            11, 2, 1, 3,
+            3, 4,
+            4, 2, 0, 0, 2, 0, 0, 0, 3, 2, 2, 5, 1, 2, 0, 5, 1, 2};
+        BigInteger h = BigInteger.valueOf(73);
+        for (int number : numbers) {
+            h = next(h, number);
+        }
+        Due.is("under way: digest()", x.digest(), h.longValue());
     }
 
     private static BigInteger next(BigInteger h, long number) {
