@@ -17,6 +17,7 @@ final class FullTest {
         threeHundredAreKept();
         threeHundredOfTheLatestRun();
         sixAreFetchedAtMost();
+        eachFetchedOneKeepsItsOwn();
         Due.end();
     }
 
@@ -263,6 +264,44 @@ final class FullTest {
             Due.is("the eldest", x.fetched(0), cycle - held);
             Due.is("the latest", x.fetched(held - 1), cycle - 1);
             Due.is("no more", x.fetched(held), NONE);
+        }
+    }
+
+    /**
+     * "what HISTORY and RETURNS are is kept with it": with each of as many as DEPTH lets be FETCHED. CALLS and
+     * BRANCHES in turn, all guessed right, but for one JUMP that is not in TARGETS.
+     */
+    private static void eachFetchedOneKeepsItsOwn() {
+        for (int depth = 1; depth <= 6; depth++) {
+            for (int wrongAt = 0; wrongAt <= 14; wrongAt++) {
+                GuessFetch x = new GuessFetch();
+                x.way(1, depth);
+                for (int p = 0; p < 60; p++) {
+                    x.act(p == wrongAt ? 7 : p % 2 == 0 ? 8 : 6, 0, 0, p == wrongAt ? 50 : p + 1);
+                    x.harm(0, p % 16, 3);
+                }
+                x.begin();
+                for (int p = 0; p < wrongAt + depth; p++) {
+                    if (p != wrongAt) {
+                        Make.known(x, p, p % 2 == 0 ? 8 : 6, p + 1);
+                    }
+                    x.run(1);
+                }
+                String name = "DEPTH " + depth + ", WRONG at " + wrongAt;
+                Due.is(name + ": none yet", x.count(2), 0);
+                Due.is(name + ": FETCHED", x.count(10), depth);
+                x.run(1);
+                Due.is(name, x.count(2), 1);
+                Due.is(name + ": FETCHED then", x.fetched(0), 50);
+                Due.is(name + ": dropped", x.count(3), depth - 1);
+                Due.is(name + ": HISTORY", x.table(6, 0), (1 << Math.min(4, wrongAt / 2)) - 1);
+                int calls = (wrongAt + 1) / 2;
+                int[] due = new int[Math.min(4, calls)];
+                for (int k = 0; k < due.length; k++) {
+                    due[k] = 2 * (calls - due.length + k) + 1;
+                }
+                returnsAre(name, x, due);
+            }
         }
     }
 }
